@@ -1085,8 +1085,6 @@ public final class WeighedLots {
             place = 0;
             clauses = 0;
             for (int c = 0; c < MOST_CLAUSES; c++) {
-                firsts[c] = 0;
-                seconds[c] = 0;
                 if (!takeClause(c)) {
                     return place;
                 }
@@ -1173,6 +1171,7 @@ public final class WeighedLots {
 
         /** VOTERS that aren't there are bits all the same: they make a LOT that isn't there. */
         private void takeLot(int c) {
+            firsts[c] = 0;
             for (int d = 0; d < MOST_NAMED && isDigit(); d++) {
                 firsts[c] |= 1 << (sign() - '0');
                 place++;
@@ -1210,7 +1209,7 @@ public final class WeighedLots {
 
         /** Told without i + n, which could wrap around. */
         boolean hasStretch(int i, int n) {
-            return n >= 0 && i >= 0 && n <= size && i <= size - n;
+            return n >= 0 && i >= 0 && i <= size - n;
         }
 
         long cut(long v) {

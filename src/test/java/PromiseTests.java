@@ -1063,6 +1063,10 @@ final class PromiseTests {
         due(x.shift(0, 6, 1, 3, 0), -13);
         due(x.shift(0, 5, 1, 4, 0), -13);
         due(x.peek(1, 1), 30);
+        due(x.shift(1, 0, 0, 2, 3), 3);
+        due(x.peek(0, 3), 30);
+        due(x.shift(0, 0, 0, 0, 5), 5);
+        due(x.peek(0, 4), 40);
     }
 
     private void shiftWithin() {
