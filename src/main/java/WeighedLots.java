@@ -362,19 +362,15 @@ public final class WeighedLots {
         return partOfFraction(together, now.lots(), part);
     }
 
-    /** below is more than 0. */
+    /** How many LOTS there are is a power of two, so that above and below can have only halves in common. */
     private static long partOfFraction(int above, int below, int part) {
-        int divisor = greatestCommonDivisor(above, below);
-        return part == 0 ? above / divisor : below / divisor;
-    }
-
-    private static int greatestCommonDivisor(int above, int below) {
-        for (int d = below; d > 1; d--) {
-            if (below % d == 0 && above % d == 0) {
-                return d;
-            }
+        int over = above;
+        int under = below;
+        for (int halved = 0; halved < MOST_VOTERS && under > 1 && over % 2 == 0; halved++) {
+            over /= 2;
+            under /= 2;
         }
-        return 1;
+        return part == 0 ? over : under;
     }
 
     // ---- events, books
