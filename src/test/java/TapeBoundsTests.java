@@ -393,7 +393,8 @@ final class TapeBoundsTests extends Bounds {
         sentence(37, "PLACE: n, i or j is below 0, or beyond either's end");
         int[][] wrong = {{-1, 0, 1}, {0, -1, 1}, {0, 0, -1}, {MIN, 0, 0}, {0, MIN, 0}, {0, 0, MIN}, {-1, -1, -1},
             {-1, 0, 0}, {0, -1, 0}, {4, 0, 1}, {0, 3, 1}, {5, 0, 0}, {0, 4, 0}, {3, 0, 2}, {0, 2, 2}, {0, 0, 4},
-            {1, 0, 4}, {0, 0, 60}, {0, 0, 61}, {MAX, 0, 1}, {MAX, 0, 0}, {0, MAX, 1}, {0, MAX, 0}, {0, 0, MAX}, {1, 0, MAX},
+            {1, 0, 4}, {0, 0, 60}, {0, 0, 61}, {MAX, 0, 1}, {MAX, 0, 0}, {0, MAX, 1}, {0, MAX, 0}, {0, 0, MAX},
+            {1, 0, MAX},
             {0, 1, MAX}, {MAX, MAX, MAX}, {MAX, 0, MAX}, {2, 0, MAX - 1}, {0, 2, MAX - 1}, {MIN, MIN, MIN},
             {1, 1, MIN}, {MAX, 0, MIN}, {0, MAX, MIN}, {-1, 0, MAX}, {MIN, 0, MAX}, {-3, 0, 3}, {0, -3, 3}, {4, 3, -1}};
         for (int[] row : wrong) {
