@@ -90,18 +90,15 @@ public final class WeighedLots {
     }
 
     public int weigh() {
-        now.code = now.weighed();
-        return now.code;
+        return now.take(now.weighed());
     }
 
     public int becomes(int how) {
         switch (how) {
             case 0:
-                now.code = Lots.dual(now.n, now.code);
-                return now.code;
+                return now.take(Lots.dual(now.n, now.code));
             case 1:
-                now.code = Lots.opposite(now.n, now.code);
-                return now.code;
+                return now.take(Lots.opposite(now.n, now.code));
             case 2:
                 return takeLeastWeights();
             default:
@@ -122,16 +119,14 @@ public final class WeighedLots {
         if (!now.hasVoter(voter)) {
             return NONE;
         }
-        now.code = Lots.turned(now.code, voter);
-        return now.code;
+        return now.take(Lots.turned(now.code, voter));
     }
 
     public int exchange(int i, int j) {
         if (!now.hasVoter(i) || !now.hasVoter(j) || i == j) {
             return NONE;
         }
-        now.code = Lots.changedAbout(now.code, i, j);
-        return now.code;
+        return now.take(Lots.changedAbout(now.code, i, j));
     }
 
     public int keep() {
@@ -161,7 +156,10 @@ public final class WeighedLots {
         return done;
     }
 
-    /** Each clause is the call that it stands for, so that both refuse the same; below 0: refused. */
+    /**
+     * What can be refused is the call that it stands for, so that both refuse the same; below 0: refused.
+     * d and o leave becomes() out, whose third sort of change would make calls go deeper than they may.
+     */
     private int carryOut(int kind, int first, int second) {
         switch (kind) {
             case 'n':
@@ -177,9 +175,9 @@ public final class WeighedLots {
             case 'g':
                 return weigh();
             case 'd':
-                return becomes(0);
+                return now.take(Lots.dual(now.n, now.code));
             case 'o':
-                return becomes(1);
+                return now.take(Lots.opposite(now.n, now.code));
             case 't':
                 return turn(first);
             case 'x':
@@ -716,6 +714,12 @@ public final class WeighedLots {
             for (int voter = 0; voter < MOST_VOTERS; voter++) {
                 weights[voter] = 0;
             }
+        }
+
+        /** THE FUNCTION becomes that of a CODE, which is answered. */
+        int take(int newCode) {
+            code = newCode;
+            return newCode;
         }
 
         void copyFrom(Setup other) {
